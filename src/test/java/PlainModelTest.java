@@ -42,8 +42,11 @@ public final class PlainModelTest {
 
     private void call() {
         switch (random.nextInt(100) / 5) {
-            case 0, 1:
+            case 0:
                 word();
+                break;
+            case 1:
+                wordOfCommonRate();
                 break;
             case 2, 3, 4, 5, 6:
                 make();
@@ -78,8 +81,22 @@ public final class PlainModelTest {
     private void word() {
         int head = random.nextInt(20) == 0 ? upTo(33) - 1 : upTo(longest);
         int ring = random.nextInt(20) == 0 ? upTo(33) : 1 + random.nextInt(longest);
-        int headBits = bits();
-        int ringBits = bits();
+        wordOf(head, bits(), ring, bits());
+    }
+
+    /** Words of one RATE with rings of unlike lengths: only these have a STORE between them. */
+    private void wordOfCommonRate() {
+        int q = 2 + random.nextInt(3);
+        int rounds = 1 + random.nextInt(30 / q);
+        int ring = q * rounds;
+        int ringBits = 0;
+        for (int i = 0; i < 10000 && Integer.bitCount(ringBits) < rounds; i++) {
+            ringBits |= 1 << random.nextInt(ring);
+        }
+        wordOf(upTo(longest), bits(), ring, ringBits);
+    }
+
+    private void wordOf(int head, int headBits, int ring, int ringBits) {
         due("word(" + head + ", " + headBits + ", " + ring + ", " + ringBits + ")",
             () -> words.word(head, headBits, ring, ringBits),
             () -> model.word(head, headBits, ring, ringBits));

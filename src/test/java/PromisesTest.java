@@ -268,7 +268,7 @@ public final class PromisesTest {
         CHECKS.due("BY, no such a", x.make(BY, 3, end), NONE);
         CHECKS.due("total behind the throws", x.total(), 3);
         CHECKS.due("other hows take 1s with an end", read(x, x.make(ON, a, end)), "10101|0");
-        while (x.total() < 40) {
+        for (int i = x.total(); i < 40; i++) {
             put(x, "|1");
         }
         CHECKS.due("BY 1s with an end, with 40", x.make(BY, a, end), NONE);
@@ -403,14 +403,14 @@ public final class PromisesTest {
 
     private static void same() {
         PeriodWords x = new PeriodWords();
-        String[] texts = {"|10", "|01", "1|01", "|1010", "0|10", "10|1", "101|0", "|110", "|10110"};
-        int[] want = {0, 1, 0, 0, 1, 5, 6, 7, 8};
+        String[] texts = {"|10", "|01", "1|01", "|1010", "0|10", "10|1", "101|0", "|110", "|10110", "00|1", "100|1"};
+        int[] want = {0, 1, 0, 0, 1, 5, 6, 7, 8, 9, 10};
         for (int i = 0; i < texts.length; i++) {
             CHECKS.due("same of " + texts[i], x.same(put(x, texts[i])), want[i]);
         }
         CHECKS.due("same of a made one", x.same(x.make(NOT, 1, 0)), 0);
         CHECKS.due("not of a later one", x.same(0), 0);
-        CHECKS.due("no word 10", x.same(10), NONE);
+        CHECKS.due("no word 12", x.same(12), NONE);
         for (int wrong : WRONG) {
             CHECKS.due("same(" + wrong + ")", x.same(wrong), NONE);
         }
@@ -500,6 +500,8 @@ public final class PromisesTest {
         dueBetween("001001|0", "11|0", 2, 4);
         dueBetween("001001|0", "1|0", 2, 2);
         dueBetween("|0", "|0", 2, 0);
+        // 12 is asked for first at the 7th 1, beyond one round of either ring.
+        dueBetween("|" + zeros(9) + "111111", "|1111000000", 2, 12);
         dueBetween("|0", "|01", 2, none);
         dueBetween("1".repeat(30) + "|0", "|" + zeros(29) + "1", 2, none);
         dueBetween("|" + zeros(29) + "1", "1".repeat(30) + "|0", 2, 30 * 30 - 1 - 29);
