@@ -4,12 +4,18 @@ import java.util.function.Supplier;
 final class Checks {
     private int asked = 0;
     private int wrong = 0;
+    private String sentence = "";
+
+    /** The sentence of the document that the answers from here on belong to. */
+    void sentence(String text) {
+        sentence = "[" + text + "] ";
+    }
 
     void due(String call, Object got, Object want) {
         asked++;
         if (!want.equals(got)) {
             wrong++;
-            System.out.println(call + " answered " + got + ", due is " + want);
+            System.out.println(sentence + call + " answered " + got + ", due is " + want);
         }
     }
 

@@ -1,17 +1,8 @@
 import java.util.NoSuchElementException;
 
 /** Each promise of the document with ordinary inputs, the edges that it names, and wrong inputs. */
-public final class PromisesTest {
+public final class PromisesTest extends WordTexts {
     private static final Checks CHECKS = new Checks();
-    private static final int NONE = PeriodWords.NONE;
-    private static final int AND = 0;
-    private static final int OR = 1;
-    private static final int XOR = 2;
-    private static final int NOT = 3;
-    private static final int ON = 4;
-    private static final int BY = 5;
-    private static final int LATE = 6;
-    private static final int HALVED = 7;
     private static final int[] WRONG = {Integer.MIN_VALUE, -2, -1, 40, 41, 64, Integer.MAX_VALUE};
 
     public static void main(String[] args) {
@@ -38,49 +29,6 @@ public final class PromisesTest {
         clear();
         total();
         CHECKS.end("PromisesTest");
-    }
-
-    /** A word written as its head, then its ring behind a bar: 101|10. */
-    private static int put(PeriodWords x, String text) {
-        int bar = text.indexOf('|');
-        String head = text.substring(0, bar);
-        String ring = text.substring(bar + 1);
-        return x.word(head.length(), number(head), ring.length(), number(ring));
-    }
-
-    private static int number(String bits) {
-        int sum = 0;
-        for (int i = 0; i < bits.length(); i++) {
-            sum |= (bits.charAt(i) - '0') << i;
-        }
-        return sum;
-    }
-
-    private static String read(PeriodWords x, int a) {
-        if (x.form(a, 0) == NONE) {
-            return "none";
-        }
-        StringBuilder text = new StringBuilder();
-        int head = x.form(a, 0);
-        int ring = x.form(a, 1);
-        for (int i = 0; i < head + ring; i++) {
-            text.append(i == head ? "|" : "").append(x.bit(a, i));
-        }
-        return text.toString();
-    }
-
-    private static String zeros(int n) {
-        return "0".repeat(n);
-    }
-
-    private static String given(String text) {
-        PeriodWords x = new PeriodWords();
-        return read(x, put(x, text));
-    }
-
-    private static String made(int how, String a, String b) {
-        PeriodWords x = new PeriodWords();
-        return read(x, x.make(how, put(x, a), put(x, b)));
     }
 
     private static void dueMade(int how, String a, String b, String want) {
@@ -161,7 +109,7 @@ public final class PromisesTest {
         dueMade(AND, "|1", "10|110", "|101");
         dueMade(NOT, "101|10", "|0", "010|01");
         dueMade(NOT, "|0", "|0", "|1");
-        String ones = "1".repeat(30);
+        String ones = ones(30);
         dueMade(AND, "|" + ones.substring(1) + "0", "|" + zeros(29) + "1", "|0");
         dueMade(OR, "|" + zeros(29) + "1", "|" + zeros(28) + "1", "none");
     }
@@ -284,7 +232,7 @@ public final class PromisesTest {
         int late = x.make(LATE, a, 30);
         CHECKS.due("a head of 60", read(x, late), zeros(59) + "1|0");
         CHECKS.due("a head of 61", x.make(LATE, late, 1), NONE);
-        CHECKS.due("NOT of a head of 60", read(x, x.make(NOT, late, 0)), "1".repeat(59) + "0|1");
+        CHECKS.due("NOT of a head of 60", read(x, x.make(NOT, late, 0)), ones(59) + "0|1");
         int b = put(x, "|" + "1" + zeros(19));
         int c = put(x, "|" + "1" + zeros(29));
         CHECKS.due("a ring of 60", read(x, x.make(AND, b, c)), "|1" + zeros(59));
@@ -437,10 +385,10 @@ public final class PromisesTest {
         dueAhead("11|0", "0111|0", false);
         dueAhead("|01", "000111|0", true);
         dueAhead("|01", "11|0", false);
-        dueAhead("1".repeat(30) + "|0", "|" + zeros(29) + "1", false);
+        dueAhead(ones(30) + "|0", "|" + zeros(29) + "1", false);
         // A long start does not help the slower one for ever.
-        dueAhead("1".repeat(30) + "|" + zeros(29) + "1", "|" + zeros(28) + "1", false);
-        dueAhead("1".repeat(30) + "|" + zeros(28) + "1", "|" + zeros(29) + "1", true);
+        dueAhead(ones(30) + "|" + zeros(29) + "1", "|" + zeros(28) + "1", false);
+        dueAhead(ones(30) + "|" + zeros(28) + "1", "|" + zeros(29) + "1", true);
         dueAhead("|1100", "|1010", true);
         dueAhead("|1001", "|0110", false);
         dueAhead("|0110", "|1001", false);
@@ -503,9 +451,9 @@ public final class PromisesTest {
         // 12 is asked for first at the 7th 1, beyond one round of either ring.
         dueBetween("|" + zeros(9) + "111111", "|1111000000", 2, 12);
         dueBetween("|0", "|01", 2, none);
-        dueBetween("1".repeat(30) + "|0", "|" + zeros(29) + "1", 2, none);
-        dueBetween("|" + zeros(29) + "1", "1".repeat(30) + "|0", 2, 30 * 30 - 1 - 29);
-        dueBetween("|" + zeros(29) + "1", "1".repeat(30) + "|" + zeros(29) + "1", 2, 30 * 30 - 1 - 29);
+        dueBetween(ones(30) + "|0", "|" + zeros(29) + "1", 2, none);
+        dueBetween("|" + zeros(29) + "1", ones(30) + "|0", 2, 30 * 30 - 1 - 29);
+        dueBetween("|" + zeros(29) + "1", ones(30) + "|" + zeros(29) + "1", 2, 30 * 30 - 1 - 29);
         dueBetween("|" + zeros(29) + "1", "|" + zeros(28) + "1", 2, none);
         dueBetween("|" + zeros(28) + "1", "|" + zeros(29) + "1", 2, 0);
     }
