@@ -339,13 +339,19 @@ public final class PeriodWords {
             this.ringBits = ringBits & lowest(this.ringLength);
             headOnes = Long.bitCount(this.headBits);
             ringOnes = Long.bitCount(this.ringBits);
-            places = new int[headOnes + ringOnes];
-            writePlaces(places, 0, this.headBits);
-            writePlaces(places, headOnes, this.ringBits);
+            places = placesOf(this.headBits, this.ringBits);
         }
 
         private static long lowest(int bits) {
             return (1L << bits) - 1;
+        }
+
+        private static int[] placesOf(long headBits, long ringBits) {
+            int headOnes = Long.bitCount(headBits);
+            int[] places = new int[headOnes + Long.bitCount(ringBits)];
+            writePlaces(places, 0, headBits);
+            writePlaces(places, headOnes, ringBits);
+            return places;
         }
 
         private static void writePlaces(int[] places, int from, long bits) {

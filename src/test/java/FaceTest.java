@@ -36,6 +36,9 @@ public final class FaceTest {
         Constructor<?>[] all = PeriodWords.class.getDeclaredConstructors();
         CHECKS.due("number of constructors", all.length, 1);
         CHECKS.due("the constructor", all[0].toGenericString(), "public PeriodWords()");
+        CHECKS.due("the class above it", PeriodWords.class.getSuperclass(), Object.class);
+        CHECKS.due("interfaces", PeriodWords.class.getInterfaces().length, 0);
+        CHECKS.due("the package", PeriodWords.class.getPackageName(), "");
     }
 
     private static void methods() {
@@ -57,12 +60,23 @@ public final class FaceTest {
 
     private static void fields() {
         CHECKS.due("NONE", PeriodWords.NONE, -1);
+        CHECKS.due("NONE as a constant", constantOf(-1), "NONE");
         for (Field f : PeriodWords.class.getDeclaredFields()) {
             String wanted = f.getName().equals("NONE") ? "public static final int PeriodWords.NONE" : "private";
             CHECKS.due("field " + f, f.toString().startsWith(wanted), true);
             if (Modifier.isStatic(f.getModifiers())) {
                 CHECKS.due("static field is final: " + f, Modifier.isFinal(f.getModifiers()), true);
             }
+        }
+    }
+
+    /** A label must be a constant: this compiles only if NONE is one. */
+    private static String constantOf(int value) {
+        switch (value) {
+            case PeriodWords.NONE:
+                return "NONE";
+            default:
+                return "another";
         }
     }
 
